@@ -563,6 +563,9 @@ public final class MeetHouse {
 
         private final long[] sums = new long[MOST_EXPONENTS + 1];
         private final boolean[] used = new boolean[MOST_EXPONENTS / BLOCK + 1];
+        private final Polynomial draft = new Polynomial();
+        private int terms = 0;
+        private boolean isGreat = false;
 
         void pour(int code, long number) {
             if (code >= 0 && code <= MOST_EXPONENTS) {
@@ -579,55 +582,36 @@ public final class MeetHouse {
 
         /** What has come together becomes the polynomial: how many TERMS, or a refusal. The pot is empty then. */
         int settle(Polynomial into) {
-            int fault = fault();
-            if (fault == 0) {
-                into.clear();
-                moveTo(into);
-            }
-            empty();
-            return fault == 0 ? into.size() : fault;
-        }
-
-        private int fault() {
-            int terms = 0;
-            for (int block = 0; block < used.length; block++) {
-                if (used[block]) {
-                    for (int code = block * BLOCK; code <= last(block); code++) {
-                        if (isBeyond(sums[code])) {
-                            return GREAT;
-                        }
-                        terms += sums[code] == 0 ? 0 : 1;
-                    }
-                }
-            }
-            return terms > MOST_TERMS ? LONG : 0;
-        }
-
-        private void moveTo(Polynomial into) {
+            draft.clear();
+            terms = 0;
+            isGreat = false;
             for (int block = used.length - 1; block >= 0; block--) {
                 if (used[block]) {
-                    for (int code = last(block); code >= block * BLOCK; code--) {
-                        if (sums[code] != 0) {
-                            into.append(code, (int) sums[code]);
-                        }
-                    }
+                    takeOut(block);
                 }
             }
+            if (isGreat) {
+                return GREAT;
+            }
+            if (terms > MOST_TERMS) {
+                return LONG;
+            }
+            into.copy(draft);
+            return terms;
         }
 
-        private void empty() {
-            for (int block = 0; block < used.length; block++) {
-                if (used[block]) {
-                    for (int code = block * BLOCK; code <= last(block); code++) {
-                        sums[code] = 0;
-                    }
-                    used[block] = false;
+        /** The draft has no place for more than the most TERMS: these are counted alone. */
+        private void takeOut(int block) {
+            int first = block * BLOCK;
+            for (int code = Math.min(first + BLOCK - 1, MOST_EXPONENTS); code >= first; code--) {
+                if (sums[code] != 0) {
+                    isGreat |= isBeyond(sums[code]);
+                    draft.append(code, (int) sums[code]);
+                    terms++;
+                    sums[code] = 0;
                 }
             }
-        }
-
-        private static int last(int block) {
-            return Math.min(block * BLOCK + BLOCK - 1, MOST_EXPONENTS);
+            used[block] = false;
         }
     }
 

@@ -559,10 +559,14 @@ final class Reference {
 
     /** How many tableaux of b (rows not falling, columns rising, numbers 1 .. k) have each content. */
     private static Map<List<Integer>, Integer> weights(int k, int b) {
-        Map<List<Integer>, Integer> weights = new HashMap<>();
-        peel(k, b, k, new int[k], weights);
-        return weights;
+        return WEIGHTS.computeIfAbsent(10000 * k + b, told -> {
+            Map<List<Integer>, Integer> weights = new HashMap<>();
+            peel(k, b, k, new int[k], weights);
+            return weights;
+        });
     }
+
+    private static final Map<Integer, Map<List<Integer>, Integer>> WEIGHTS = new HashMap<>();
 
     /** The places of the greatest number lie at the ends of the rows, no two in a column. */
     private static void peel(int k, int box, int number, int[] content, Map<List<Integer>, Integer> weights) {
