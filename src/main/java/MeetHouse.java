@@ -374,8 +374,10 @@ public final class MeetHouse {
             }
             int n = 0;
             int seen = 0;
-            for (int rest = order; rest > 0; rest /= 10) {
+            int rest = order;
+            while (n < MOST_FIGURES && rest > 0) {
                 seen |= 1 << (rest % 10);
+                rest /= 10;
                 n++;
             }
             return seen == (1 << (n + 1)) - 2 ? n : 0;
@@ -436,7 +438,8 @@ public final class MeetHouse {
 
         /** The k-th ORDER that comes of this one by an exchange across r and is longer by 1. */
         static int risen(int order, int n, int r, int k) {
-            if (k < 0 || k > MOST_LENGTH) {
+            // of 5 figures there are no more than 10 pairs to exchange
+            if (k < 0 || k >= MOST_LENGTH) {
                 return NONE;
             }
             int found = 0;

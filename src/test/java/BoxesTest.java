@@ -1,3 +1,4 @@
+import java.util.Arrays;
 import java.util.HashMap;
 import java.util.List;
 import java.util.Map;
@@ -282,13 +283,13 @@ public final class BoxesTest {
         CHECK.due("26: one row", meetingOf(1, 4, 1, 2, 1), 1);
         CHECK.due("26: one column", meetingOf(4, 1, 1000, 1100, 1000), 1);
         int[] nine = new int[9];
-        java.util.Arrays.fill(nine, 100);
+        Arrays.fill(nine, 100);
         CHECK.due("26: nine", meetingOf(3, 3, nine), 42);
         int[] sixteen = new int[16];
-        java.util.Arrays.fill(sixteen, 1000);
+        Arrays.fill(sixteen, 1000);
         CHECK.due("26: sixteen", meetingOf(4, 4, sixteen), 24024);
         int[] twelve = new int[12];
-        java.util.Arrays.fill(twelve, 100);
+        Arrays.fill(twelve, 100);
         CHECK.due("26: twelve", meetingOf(3, 4, twelve), 462);
     }
 

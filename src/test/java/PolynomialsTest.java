@@ -1,3 +1,5 @@
+import java.util.Arrays;
+
 /** Promises 7 to 20: sheets and what is made on them. */
 public final class PolynomialsTest {
     private static final int BAD = -2, NULL = -3, HIGH = -4, GREAT = -5, LONG = -6;
@@ -375,7 +377,7 @@ public final class PolynomialsTest {
                 1, 11100, 1, 2100}, {12354, 1, 10000, 1, 1000, 1, 100, 1, 10}, {54321, 1, 43210}, {4321, 1, 32100},
             {1423, 1, 20000, 1, 11000, 1, 2000}, {23451, 1, 11110}, {51234, 1, 40000}};
         for (int[] row : due) {
-            int[] terms = java.util.Arrays.copyOfRange(row, 1, row.length);
+            int[] terms = Arrays.copyOfRange(row, 1, row.length);
             CHECK.due("17: polynomial(4, " + row[0] + ")", x.polynomial(4, row[0]), terms.length / 2);
             has("17: polynomial(4, " + row[0] + ")", x, 4, terms);
         }
