@@ -52,6 +52,7 @@ public final class BoxesTest {
         for (int k = 1; k <= 4; k++) {
             for (int m = 1; m <= 4; m++) {
                 for (int box : Reference.allBoxes(k, m)) {
+                    x = new MeetHouse();
                     for (int p = 0; p <= 5; p++) {
                         for (int i = 0; i <= 5; i++) {
                             CHECK.due("21: " + k + m + " " + box + " " + p + " " + i, x.strip(k, m, box, p, i),
@@ -88,7 +89,6 @@ public final class BoxesTest {
     }
 
     private static void fillingsByTheirWords() {
-        MeetHouse x = new MeetHouse();
         Reference reference = new Reference();
         int[][] shapes = {{1, 4, 4}, {2, 4, 8}, {3, 3, 9}, {4, 2, 6}, {4, 4, 6}};
         for (int[] shape : shapes) {
@@ -97,6 +97,7 @@ public final class BoxesTest {
             List<Integer> boxes = Reference.allBoxes(k, m);
             for (int a : boxes) {
                 for (int c : boxes) {
+                    MeetHouse x = new MeetHouse();
                     int[][] places = places(k, a, c);
                     Map<Integer, Integer> due = places == null || places.length > shape[2] ? null : filled(k, a, places);
                     for (int b : boxes) {

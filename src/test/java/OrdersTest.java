@@ -112,6 +112,7 @@ public final class OrdersTest {
         Reference reference = new Reference();
         for (int n = 1; n <= 4; n++) {
             for (int order : Reference.allOrders(n)) {
+                x = new MeetHouse();
                 for (int r = 1; r <= n; r++) {
                     for (int k = 0; k <= 6; k++) {
                         CHECK.due("6: step(" + order + ", " + r + ", " + k + ")", x.step(order, r, k),

@@ -389,6 +389,7 @@ public final class PolynomialsTest {
             refused("17: sheet " + sheet, x, before, x.polynomial(sheet, 21), BAD);
         }
         Reference reference = new Reference();
+        x = new MeetHouse();
         for (int n = 1; n <= 5; n++) {
             for (int order : Reference.allOrders(n)) {
                 CHECK.due("17: " + order, x.polynomial(4, order), reference.polynomial(4, order));
@@ -413,9 +414,10 @@ public final class PolynomialsTest {
         x.blank(3);
         CHECK.due("18: without terms", x.part(3, 54321), 0);
         for (int order : Reference.allOrders(4)) {
-            x.polynomial(4, order);
+            MeetHouse y = new MeetHouse();
+            y.polynomial(4, order);
             for (int other : Reference.allOrders(4)) {
-                CHECK.due("18: the part of " + order + " by " + other, x.part(4, other), order == other ? 1 : 0);
+                CHECK.due("18: the part of " + order + " by " + other, y.part(4, other), order == other ? 1 : 0);
             }
         }
         before = x.digest();
@@ -474,6 +476,7 @@ public final class PolynomialsTest {
         Reference reference = new Reference();
         for (int u : Reference.allOrders(4)) {
             for (int v : Reference.allOrders(4)) {
+                x = new MeetHouse();
                 for (int w : Reference.allOrders(4)) {
                     if (x.length(u) + x.length(v) <= x.length(w) + 1) {
                         CHECK.due("19: " + u + ", " + v + ", " + w, x.constant(u, v, w), reference.constant(u, v, w));

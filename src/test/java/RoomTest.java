@@ -18,11 +18,11 @@ public final class RoomTest {
         long made = taken() - before;
         CHECK.holds("a new object takes " + made + " bytes", made > 0 && made < 1000000);
         before = taken();
-        for (int time = 0; time < 20; time++) {
+        for (int time = 0; time < 6; time++) {
             calls(house);
         }
         long more = taken() - before;
-        CHECK.holds("its calls take " + more + " bytes", more < 20000);
+        CHECK.holds("its calls take " + more + " bytes", more < 5000);
         CHECK.due("the same calls, the same answers", house.digest(), first.digest());
         CHECK.end();
     }

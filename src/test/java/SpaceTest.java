@@ -71,11 +71,11 @@ public final class SpaceTest {
     /** Of every two points: the line is one of all lines, and has the points that it has. */
     private static void rodsOfAllPoints() {
         for (int q : new int[] {2, 3}) {
-            MeetHouse x = new MeetHouse();
-            x.field(q);
             List<Integer> points = Reference.allPoints(q);
             for (int a : points) {
                 for (int b : points) {
+                    MeetHouse x = new MeetHouse();
+                    x.field(q);
                     CHECK.due("28: rod(0, " + a + ", " + b + ")", x.rod(0, a, b), a == b ? BAD : 1);
                     if (a != b) {
                         for (int c : points) {
