@@ -365,6 +365,11 @@ final class MakingBoundaries {
             Houses.put(x, 5, 0, 0);
             said.due("none and a million times 100", x.sum(4, 5, 1, sign * 1000000), 1);
             Houses.has(said, x, 4, sign * (long) MOST, 1);
+            Houses.put(x, 6, sign * 65536, 1);
+            said.due("an int would wrap to 0", x.sum(7, 5, 6, 65536), GREAT);
+            Houses.put(x, 6, sign * 85899346, 1);
+            said.due("an int would wrap to 4", x.sum(7, 5, 6, 50), GREAT);
+            said.due("an int would wrap below 0", x.sum(7, 5, 6, 25), GREAT);
         }
         said.name(13, "LONG.");
         MeetHouse x = Houses.full(0);
@@ -440,6 +445,12 @@ final class MakingBoundaries {
             said.due("100010000 come together", x.product(2, 0, 1), GREAT);
             said.due("in place", x.product(1, 0, 1), GREAT);
             Houses.has(said, x, 1, sign * 10000, 10000, sign * 10000, 1000);
+            Houses.put(x, 3, 65536, 1);
+            Houses.put(x, 4, sign * 65536, 1);
+            said.due("an int would wrap to 0", x.product(5, 3, 4), GREAT);
+            Houses.put(x, 3, MOST, 1);
+            Houses.put(x, 4, sign * MOST, 1);
+            said.due("the greatest at all", x.product(5, 3, 4), GREAT);
             Houses.put(x, 0, 20000, 44000, 10000, 4400, 10000, 440);
             Houses.put(x, 1, sign * 10000, 444, -sign * 5000, 40044, -sign * 5000, 44004);
             said.due("beyond on the way alone", x.product(3, 0, 1), 7);

@@ -85,8 +85,8 @@ final class OrderBoundaries {
         }
     }
 
-    /** 511 calls are made: sheets 0 and 1, rods 0 and 1, four boxes of 2 rows, 2 columns. */
-    private MeetHouse worn() {
+    /** Sheets 0 and 1, rods 0 and 1, four boxes of 2 rows, 2 columns: 8 calls, and those that add to sheet 1. */
+    private MeetHouse worn(int adds) {
         MeetHouse x = new MeetHouse();
         said.due("polynomial(0, 132)", x.polynomial(0, 132), 2);
         said.due("blank(1)", x.blank(1), 1);
@@ -95,56 +95,95 @@ final class OrderBoundaries {
         for (int at = 1; at <= 4; at++) {
             said.due("condition(10)", x.condition(10), at);
         }
-        for (int call = 9; call <= 511; call++) {
-            said.due("add(1, 1, 11111), call " + call, x.add(1, 1, 11111), 1);
+        for (int call = 1; call <= adds; call++) {
+            said.due("add(1, 1, 11111), time " + call, x.add(1, 1, 11111), 1);
         }
         return x;
+    }
+
+    /** Each kind of call on a worn object, behind what it is to answer. */
+    private static Map<String, ToLongFunction<MeetHouse>> calls(int adds) {
+        Map<String, ToLongFunction<MeetHouse>> calls = new LinkedHashMap<>();
+        calls.put("length(321) 3", x -> x.length(321));
+        calls.put("exchange(321, 1) 231", x -> x.exchange(321, 1));
+        calls.put("inverse(231) 312", x -> x.inverse(231));
+        calls.put("orders(3, 1) 2", x -> x.orders(3, 1));
+        calls.put("step(132, 2, 1) 2314", x -> x.step(132, 2, 1));
+        calls.put("blank(0) 1", x -> x.blank(0));
+        calls.put("lose(0) 2", x -> x.lose(0));
+        calls.put("add(1, 1, 11111) 1", x -> x.add(1, 1, 11111));
+        calls.put("terms(0) 2", x -> x.terms(0));
+        calls.put("exponents(0, 1) 1000", x -> x.exponents(0, 1));
+        calls.put("number(1, 11111) " + adds, x -> x.number(1, 11111));
+        calls.put("sum(2, 0, 1, 1) 3", x -> x.sum(2, 0, 1, 1));
+        calls.put("product(2, 0, 1) 2", x -> x.product(2, 0, 1));
+        calls.put("turned(2, 0, 2) 2", x -> x.turned(2, 0, 2));
+        calls.put("difference(2, 0, 2) 1", x -> x.difference(2, 0, 2));
+        calls.put("polynomial(2, 321) 1", x -> x.polynomial(2, 321));
+        calls.put("part(0, 132) 1", x -> x.part(0, 132));
+        calls.put("constant(132, 132, 231) 1", x -> x.constant(132, 132, 231));
+        calls.put("same(0, 0) 1", x -> x.same(0, 0));
+        calls.put("strip(2, 3, 10, 2, 1) 30", x -> x.strip(2, 3, 10, 2, 1));
+        calls.put("fillings(2, 2, 10, 10, 20) 1", x -> x.fillings(2, 2, 10, 10, 20));
+        calls.put("orderOf(2, 2, 21) 2413", x -> x.orderOf(2, 2, 21));
+        calls.put("begin(3, 3) 4", x -> x.begin(3, 3));
+        calls.put("condition(10) 5", x -> x.condition(10));
+        calls.put("meeting() 2", x -> x.meeting());
+        calls.put("field(3) 2", x -> x.field(3));
+        calls.put("rod(2, 1000, 1) 1", x -> x.rod(2, 1000, 1));
+        calls.put("drop(0) 1", x -> x.drop(0));
+        calls.put("meet(0, 1) 0", x -> x.meet(0, 1));
+        calls.put("lines(3) 9", x -> x.lines(3));
+        calls.put("points(3) 6", x -> x.points(3));
+        calls.put("count(5) 2", x -> x.count(5));
+        calls.put("digest() " + SpaceBoundaries.digestOf(2, 4, 2, 2, 2, 2, 0, 2, 10000, 1, 1000, 1, 1, 1, 11111, adds,
+                10, 10, 10, 10), x -> x.digest());
+        return calls;
     }
 
     private void calls512() {
         said.name("What it is",
                 "An object is used for at most 512 calls after it has been made; what later calls answer is free.");
-        Map<String, ToLongFunction<MeetHouse>> last = new LinkedHashMap<>();
-        last.put("length(321) 3", x -> x.length(321));
-        last.put("exchange(321, 1) 231", x -> x.exchange(321, 1));
-        last.put("inverse(231) 312", x -> x.inverse(231));
-        last.put("orders(3, 1) 2", x -> x.orders(3, 1));
-        last.put("step(132, 2, 1) 2314", x -> x.step(132, 2, 1));
-        last.put("blank(0) 1", x -> x.blank(0));
-        last.put("lose(0) 2", x -> x.lose(0));
-        last.put("add(1, 1, 11111) 1", x -> x.add(1, 1, 11111));
-        last.put("terms(0) 2", x -> x.terms(0));
-        last.put("exponents(0, 1) 1000", x -> x.exponents(0, 1));
-        last.put("number(1, 11111) 503", x -> x.number(1, 11111));
-        last.put("sum(2, 0, 1, 1) 3", x -> x.sum(2, 0, 1, 1));
-        last.put("product(2, 0, 1) 2", x -> x.product(2, 0, 1));
-        last.put("turned(2, 0, 2) 2", x -> x.turned(2, 0, 2));
-        last.put("difference(2, 0, 2) 1", x -> x.difference(2, 0, 2));
-        last.put("polynomial(2, 321) 1", x -> x.polynomial(2, 321));
-        last.put("part(0, 132) 1", x -> x.part(0, 132));
-        last.put("constant(132, 132, 231) 1", x -> x.constant(132, 132, 231));
-        last.put("same(0, 0) 1", x -> x.same(0, 0));
-        last.put("strip(2, 3, 10, 2, 1) 30", x -> x.strip(2, 3, 10, 2, 1));
-        last.put("fillings(2, 2, 10, 10, 20) 1", x -> x.fillings(2, 2, 10, 10, 20));
-        last.put("orderOf(2, 2, 21) 2413", x -> x.orderOf(2, 2, 21));
-        last.put("begin(3, 3) 4", x -> x.begin(3, 3));
-        last.put("condition(10) 5", x -> x.condition(10));
-        last.put("meeting() 2", x -> x.meeting());
-        last.put("field(3) 2", x -> x.field(3));
-        last.put("rod(2, 1000, 1) 1", x -> x.rod(2, 1000, 1));
-        last.put("drop(0) 1", x -> x.drop(0));
-        last.put("meet(0, 1) 0", x -> x.meet(0, 1));
-        last.put("lines(3) 9", x -> x.lines(3));
-        last.put("points(3) 6", x -> x.points(3));
-        last.put("count(5) 2", x -> x.count(5));
-        last.put("digest() " + SpaceBoundaries.digestOf(2, 4, 2, 2, 2, 2, 0, 2, 10000, 1, 1000, 1, 1, 1, 11111, 503,
-                10, 10, 10, 10), x -> x.digest());
+        Map<String, ToLongFunction<MeetHouse>> last = calls(503);
         said.due("kinds of calls", last.size(), 33);
         for (Map.Entry<String, ToLongFunction<MeetHouse>> call : last.entrySet()) {
-            String told = call.getKey();
-            int end = told.lastIndexOf(' ');
-            said.due("the 512th call, " + told.substring(0, end), call.getValue().applyAsLong(worn()),
-                    Long.parseLong(told.substring(end + 1)));
+            MeetHouse x = worn(503);
+            said.due("the 512th call, " + told(call), call.getValue().applyAsLong(x), due(call));
+        }
+        for (Map.Entry<String, ToLongFunction<MeetHouse>> call : calls(1).entrySet()) {
+            // these answer another thing when they are called again
+            if (!told(call).matches("(lose|begin|condition|field|drop).*")) {
+                MeetHouse x = worn(1);
+                for (int time = 10; time <= 512; time++) {
+                    said.due("call " + time + ", again " + told(call), call.getValue().applyAsLong(x), due(call));
+                }
+            }
+        }
+        fieldsAndLists512();
+    }
+
+    private static String told(Map.Entry<String, ToLongFunction<MeetHouse>> call) {
+        return call.getKey().substring(0, call.getKey().lastIndexOf(' '));
+    }
+
+    private static long due(Map.Entry<String, ToLongFunction<MeetHouse>> call) {
+        return Long.parseLong(call.getKey().substring(call.getKey().lastIndexOf(' ') + 1));
+    }
+
+    private void fieldsAndLists512() {
+        MeetHouse x = new MeetHouse();
+        MeetHouse y = new MeetHouse();
+        MeetHouse z = new MeetHouse();
+        MeetHouse w = new MeetHouse();
+        for (int time = 1; time <= 256; time++) {
+            said.due("field(5), time " + time, x.field(5), time == 1 ? 2 : 3);
+            said.due("field(3), time " + time, x.field(3), 5);
+            said.due("blank(7), time " + time, y.blank(7), 1);
+            said.due("lose(7), time " + time, y.lose(7), 0);
+            said.due("rod(7, 1, 10), time " + time, z.rod(7, 1, 10), 1);
+            said.due("drop(7), time " + time, z.drop(7), 1);
+            said.due("condition(10), time " + time, w.condition(10), (time - 1) % 16 + 1);
+            said.due("begin or count, time " + time, time % 16 == 0 ? w.begin(2, 2) : w.count(1), (time - 1) % 16 + 1);
         }
     }
 

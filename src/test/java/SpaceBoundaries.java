@@ -1,5 +1,12 @@
 import java.math.BigInteger;
+import java.util.ArrayList;
 import java.util.Arrays;
+import java.util.Collections;
+import java.util.LinkedHashMap;
+import java.util.List;
+import java.util.Map;
+import java.util.Set;
+import java.util.TreeSet;
 
 /** What the document says of SPACE, and promises 27 to 34: calls on both sides of each boundary. */
 final class SpaceBoundaries {
@@ -20,6 +27,7 @@ final class SpaceBoundaries {
         lineThroughTwo();
         rods();
         linesThatMeet();
+        linesThatMeetByTheirPoints();
         field();
         rod();
         rodRefused();
@@ -168,6 +176,72 @@ final class SpaceBoundaries {
         said.due("2024 is twice 1000 and 12 together", x.meet(0, 1), 1);
         x.rod(1, 2023, 100);
         said.due("2023 is not of them", x.meet(0, 1), 0);
+    }
+
+    /** All sums of multiples that are not all 0, each as that of its multiples which is told by the least figures. */
+    private static Set<Integer> pointsOf(int q, int a, int b) {
+        Set<Integer> points = new TreeSet<>();
+        for (int s = 0; s < q; s++) {
+            for (int t = 0; t < q; t++) {
+                int least = Integer.MAX_VALUE;
+                for (int factor = 1; factor < q; factor++) {
+                    int point = 0;
+                    for (int unit = 1000; unit > 0; unit /= 10) {
+                        point = 10 * point + factor * (s * (a / unit % 10) + t * (b / unit % 10)) % q;
+                    }
+                    least = Math.min(least, point);
+                }
+                if (least > 0) {
+                    points.add(least);
+                }
+            }
+        }
+        return points;
+    }
+
+    /** Two points of each line. */
+    private static Map<Set<Integer>, int[]> linesOf(int q) {
+        List<Integer> points = new ArrayList<>();
+        for (int number = 1; number < 10000; number++) {
+            if (isPoint(q, number) && pointsOf(q, number, number).contains(number)) {
+                points.add(number);
+            }
+        }
+        Map<Set<Integer>, int[]> lines = new LinkedHashMap<>();
+        for (int a : points) {
+            for (int b : points) {
+                if (a < b) {
+                    lines.putIfAbsent(pointsOf(q, a, b), new int[] {a, b});
+                }
+            }
+        }
+        return lines;
+    }
+
+    /** Each line of 2 and 3 with each, and each 31st of 5, in turn as rod 0 and rod 1. */
+    private void linesThatMeetByTheirPoints() {
+        said.name("Terms", "Two LINES MEET, if they have a POINT in common.");
+        for (int q : FIELDS) {
+            Map<Set<Integer>, int[]> lines = linesOf(q);
+            said.due("lines over " + q, lines.size(), (q * q + 1) * (q * q + q + 1));
+            List<Set<Integer>> sets = new ArrayList<>(lines.keySet());
+            for (int one = 0; one < sets.size(); one += q == 5 ? 31 : 1) {
+                int[] a = lines.get(sets.get(one));
+                MeetHouse x = over(q);
+                x.rod(0, a[0], a[1]);
+                for (int other = 0; other < sets.size(); other++) {
+                    if (other % 200 == 199) {
+                        x = over(q);
+                        x.rod(0, a[0], a[1]);
+                    }
+                    int[] b = lines.get(sets.get(other));
+                    x.rod(1, b[0], b[1]);
+                    boolean isApart = Collections.disjoint(sets.get(one), sets.get(other));
+                    said.due("over " + q + ": " + a[0] + "-" + a[1] + " and " + b[0] + "-" + b[1], x.meet(0, 1),
+                            one == other ? 2 : isApart ? 0 : 1);
+                }
+            }
+        }
     }
 
     private void field() {
