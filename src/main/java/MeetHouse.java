@@ -16,6 +16,7 @@ public final class MeetHouse {
     private static final int MOST_LENGTH = 10;
     private static final int MOST_SIDE = 4;
     private static final int MOST_STRIP = 16;
+    private static final long LEAST = -9223372036854775808L;
 
     private final Polynomial[] sheets = new Polynomial[SHEETS];
     private final Algebra algebra = new Algebra();
@@ -342,7 +343,7 @@ public final class MeetHouse {
 
     /** A refusal where the answer is a long. */
     private static long refusal(int code) {
-        return Long.MIN_VALUE - code;
+        return LEAST - code;
     }
 
     /** Numbers of figures. */

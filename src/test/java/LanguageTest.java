@@ -12,8 +12,7 @@ public final class LanguageTest {
     private static final Pattern LIBRARY = Pattern.compile("\\b(Math|Integer|Long|System|Arrays|String|StringBuilder|"
         + "List|ArrayList)\\b\\s*\\.?\\s*(\\w*)");
     private static final String ALLOWED = " Math.max Math.min Math.abs Math.floorDiv Math.floorMod Integer.compare "
-        + "Integer.bitCount Long.compare Long.bitCount Long.MIN_VALUE Long.MAX_VALUE Integer.MAX_VALUE "
-        + "Integer.MIN_VALUE ";
+        + "Integer.bitCount Long.compare Long.bitCount ";
     private static final Pattern HEAD = Pattern.compile("^    (?:    )?(?!.*\\b(?:class|new|return)\\b)[\\w\\[\\], ]+\\(.*\\{$");
 
     public static void main(String[] args) throws Exception {
